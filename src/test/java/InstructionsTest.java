@@ -36,6 +36,7 @@ public final class InstructionsTest {
     private void loads() {
         after("LDA #", 9, 9, 0, 0xA9, 0).takes(2).has(0, 9, Z, AT + 2);
         after("LDA # negative", 9, 9, 1, 0xA9, 128).takes(2).has(128, 9, N | C, AT + 2);
+        after("LDA # not negative", 9, 9, 0, 0xA9, 127).takes(2).has(127, 9, 0, AT + 2);
         after("LDA Z", 9, 9, 0, 0xA5, 0x40).poke(0x40, 255).takes(3).has(255, 9, N, AT + 2);
         after("LDA M", 9, 9, 0, 0xAD, 0x34, 0x01).poke(0x134, 7).takes(4).has(7, 9, 0, AT + 3);
         after("LDA X M", 9, 9, 0, 0xBD, 0xFF, 0x01).poke(0x208, 0).poke(0x206, 56).takes(4);
@@ -201,6 +202,15 @@ public final class InstructionsTest {
         see("PC", machine.processor(Machines.PC), 0x234);
         see("S", machine.processor(Machines.S), 2);
         see("flags", machine.processor(Machines.FLAGS), N | Z | C);
+        int[] pulled = {0, 124, 128, 2, 1};
+        int[] flags = {0, 0, N, Z, C};
+        for (int i = 0; i < pulled.length; i++) {
+            name = "RTI with " + pulled[i];
+            machine = Machines.withProgram(0x40);
+            machine.poke(256, pulled[i]);
+            machine.run(6);
+            see("flags", machine.processor(Machines.FLAGS), flags[i]);
+        }
     }
 
     private void jams() {

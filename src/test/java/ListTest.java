@@ -155,10 +155,11 @@ public final class ListTest {
 
     private void otherModesAreOneBlankRow() {
         for (int mode = 5; mode < 16; mode++) {
+            PictureMachine shown = withList(0x40, 0x70 | mode, 0x70);
+            shown.run(2);
+            check.due("the mode", shown.state(Machines.MODE), mode);
             PictureMachine machine = withList(0x40, 0x70 | mode, 0x70);
-            machine.run(2);
-            check.due("the mode", machine.state(Machines.MODE), mode);
-            machine.run(22);
+            lineTakes("mode " + mode, machine, MODE_BYTE_ALONE);
             check.due("the mode when done", machine.state(Machines.MODE), PictureMachine.NONE);
             dots("mode " + mode, machine, 1, 0, 0);
             lineTakes("after mode " + mode, machine, MODE_BYTE_ALONE);
@@ -231,11 +232,11 @@ public final class ListTest {
     }
 
     private void showsLetters() {
-        PictureMachine machine = withList(0x40, 0x42, 0x80, 0x00, 0x70);
-        machine.write(1, 0xFD);
+        PictureMachine machine = withList(0x41, 0x42, 0x80, 0x00, 0x70);
+        machine.write(1, 0xFC);
         Machines.pokeAll(machine, 0x80, 0x00, 0x01, 0x7F, 0xC1, 0x3F, 0x40, 0x02, 0x03);
-        Machines.pokeAll(machine, 0x100, 0x1B, 0xE4, 0xFF, 0x00, 0x01, 0x02, 0x03, 0x04);
-        Machines.pokeAll(machine, 0x1FC, 0x55, 0xAA, 0x56, 0xA9);
+        Machines.pokeAll(machine, 0, 0x1B, 0xE4, 0xFF, 0x00, 0x01, 0x02, 0x03, 0x04);
+        Machines.pokeAll(machine, 0xFC, 0x55, 0xAA, 0x56, 0xA9);
         machine.run(24);
         // Its data are not fetched again for the later rows.
         Machines.pokeAll(machine, 0x80, 9, 9, 9, 9, 9, 9, 9, 9);

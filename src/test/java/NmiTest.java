@@ -6,6 +6,7 @@ public final class NmiTest {
         NmiTest test = new NmiTest();
         test.isRequestedBelowThePicture();
         test.isRequestedInTheLastRowOfAMarkedLine();
+        test.gathersCauses();
         test.isNotRequestedOtherwise();
         test.isEntered();
         test.waitsForTheInstruction();
@@ -59,6 +60,12 @@ public final class NmiTest {
             other.run(1);
             check.due("CAUSES, mode " + modes[i], other.state(Machines.CAUSES), 128);
         }
+    }
+
+    private void gathersCauses() {
+        PictureMachine machine = machine(1, 192, 0x80, 0x70, 0x70);
+        Machines.runTo(machine, 13, 9);
+        check.due("both CAUSES", machine.state(Machines.CAUSES), 192);
     }
 
     private void isNotRequestedOtherwise() {

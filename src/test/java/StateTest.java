@@ -15,7 +15,7 @@ public final class StateTest {
 
     /** A machine in which no two of the greater numbers are the same. */
     private static PictureMachine busy() {
-        PictureMachine machine = PlayersTest.overRow(3, 0b0110_0000, 0b1001_0000);
+        PictureMachine machine = PlayersTest.overRow(3, 0b0110_0000, 0b1000_0000);
         Machines.pokeAll(machine, 0x43, 0xC2, 0x80, 0x01);
         machine.write(14, 0);
         machine.write(15, 2);
@@ -34,7 +34,7 @@ public final class StateTest {
         PictureMachine machine = busy();
         int chance = chanceAfter(120);
         int[] due = {
-            0, 5, 0, 0x46, 0x188, 0, 2, 3, 0b0110_0000, 0b1001_0000, 0, 0b0110, 0b0110, 1, chance,
+            0, 5, 0, 0x46, 0x188, 0, 2, 3, 0b0110_0000, 0b1000_0000, 0, 0b0110, 0b0100, 1, chance,
             250 - 96, 0, 1, 11, 3, 1,
         };
         for (int what = 0; what < due.length; what++) {

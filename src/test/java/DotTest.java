@@ -12,8 +12,8 @@ public final class DotTest {
     private static void refusesWrongInputs(Check check) {
         PictureMachine machine = Machines.idle();
         int[][] none = {
-            {0, 0}, {13, 0}, {-1, 0}, {1, -1}, {1, 32}, {12, 32}, {0, 32}, {Integer.MIN_VALUE, 0}, {Integer.MAX_VALUE, 0},
-            {1, Integer.MIN_VALUE},
+            {0, 0}, {13, 0}, {-1, 0}, {1, -1}, {1, 32}, {12, 32}, {0, 32},
+            {Integer.MIN_VALUE, 0}, {Integer.MAX_VALUE, 0}, {1, Integer.MIN_VALUE},
         };
         for (int[] place : none) {
             check.refuses("dot(" + place[0] + ", " + place[1] + ")", machine,

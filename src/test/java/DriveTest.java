@@ -59,7 +59,8 @@ public final class DriveTest {
         machine.run(240);
         check.due("waiting as long as none is taken", machine.state(Machines.WAITING), 10);
         PictureMachine byStore = Machines.withProgram(
-            0xA9, 49, 0x8D, 0x17, 0x03, 0xA9, 82, 0x8D, 0x17, 0x03, 0xA9, 1, 0x8D, 0x17, 0x03, 0xA9, 132, 0x8D, 0x17, 3);
+            0xA9, 49, 0x8D, 0x17, 0x03, 0xA9, 82, 0x8D, 0x17, 0x03,
+            0xA9, 1, 0x8D, 0x17, 0x03, 0xA9, 132, 0x8D, 0x17, 0x03);
         byStore.run(26);
         check.due("waiting, as the processor sends in line 1", byStore.state(Machines.WAITING), 11);
     }

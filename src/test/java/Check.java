@@ -36,6 +36,11 @@ final class Check {
         due(what + " leaves", Machines.seen(machine), before);
     }
 
+    /** Whether something was looked at, and all of it was as due. */
+    boolean isRight() {
+        return looked > 0 && wrong == 0;
+    }
+
     void end() {
         System.out.println(looked + " answers looked at, " + wrong + " wrong");
         if (wrong != 0) {

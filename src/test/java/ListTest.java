@@ -1,13 +1,5 @@
 /** The display: its list, its modes, and which cycles it takes (in the terms before promise 1). */
 public final class ListTest {
-    private static final String NO_DATA = "pppppppppppppppp";
-    private static final String END = "..pp";
-    private static final String NOTHING = "pppp" + NO_DATA + END;
-    private static final String MODE_BYTE_ALONE = "p.pp" + NO_DATA + END;
-    private static final String DATA = ".p.p.p.p.p.p.p.p";
-    private static final String LETTERS = "p.p.p.p.p.p.p.p.";
-    private static final String BOTH = "................";
-
     private final Check check = new Check();
 
     public static void main(String[] args) {
@@ -33,56 +25,32 @@ public final class ListTest {
         test.check.end();
     }
 
-    private static PictureMachine withList(int at, int... list) {
-        PictureMachine machine = Machines.idle();
-        Machines.pokeAll(machine, at, list);
-        machine.write(0, 1);
-        machine.write(2, at & 255);
-        machine.write(3, at >> 8);
-        for (int colour = 0; colour < 4; colour++) {
-            machine.write(8 + colour, 100 + colour);
-        }
-        machine.run(24);
-        return machine;
-    }
-
-    /** A line's cycles: p where the processor had one, a point where it was taken. */
-    private static String taken(PictureMachine machine) {
-        StringBuilder taken = new StringBuilder();
-        for (int cycle = 0; cycle < 24; cycle++) {
-            taken.append(machine.run(1) == 1 ? 'p' : '.');
-        }
-        return taken.toString();
-    }
-
     private void lineTakes(String what, PictureMachine machine, String due) {
-        check.due(what + ", line " + machine.state(Machines.LINE), taken(machine), due);
+        Lines.takes(check, what, machine, due);
     }
 
     private void dots(String what, PictureMachine machine, int y, int... due) {
-        for (int x = 0; x < due.length; x++) {
-            check.due(what + ": dot(" + y + ", " + x + ")", machine.dot(y, x), 100 + due[x]);
-        }
+        Lines.dots(check, what, machine, y, due);
     }
 
     private void takesNothingWithoutControl() {
-        PictureMachine machine = withList(0x40, 0x42, 0x00, 0x01);
+        PictureMachine machine = Lines.withList(0x40, 0x42, 0x00, 0x01);
         machine.write(0, 252);
         for (int line = 1; line < 16; line++) {
-            lineTakes("CONTROL 252", machine, NOTHING);
+            lineTakes("CONTROL 252", machine, Lines.NOTHING);
         }
-        lineTakes("CONTROL 252", machine, NOTHING);
+        lineTakes("CONTROL 252", machine, Lines.NOTHING);
     }
 
     private void takesShapes() {
-        PictureMachine machine = withList(0x40, 0x70, 0x70);
+        PictureMachine machine = Lines.withList(0x40, 0x70, 0x70);
         machine.write(0, 2);
         for (int line = 1; line < 17; line++) {
-            lineTakes("CONTROL 2", machine, ".ppp" + NO_DATA + "..p.");
+            lineTakes("CONTROL 2", machine, ".ppp" + Lines.NO_DATA + "..p.");
         }
         machine.write(0, 3);
-        lineTakes("CONTROL 3", machine, "..pp" + NO_DATA + "..p.");
-        lineTakes("CONTROL 3", machine, ".ppp" + NO_DATA + "..p.");
+        lineTakes("CONTROL 3", machine, "..pp" + Lines.NO_DATA + "..p.");
+        lineTakes("CONTROL 3", machine, ".ppp" + Lines.NO_DATA + "..p.");
     }
 
     private void fetchesShapes() {
@@ -107,47 +75,47 @@ public final class ListTest {
     }
 
     private void takesLetters() {
-        PictureMachine machine = withList(0x40, 0x42, 0x00, 0x01, 0x02, 0x70);
-        lineTakes("letters with an address", machine, "p..." + BOTH + END);
+        PictureMachine machine = Lines.withList(0x40, 0x42, 0x00, 0x01, 0x02, 0x70);
+        lineTakes("letters with an address", machine, "p..." + Lines.BOTH + Lines.END);
         check.due("L", machine.state(Machines.L), 0x43);
         check.due("D", machine.state(Machines.D), 0x108);
         check.due("the mode", machine.state(Machines.MODE), 2);
         for (int row = 1; row < 4; row++) {
             check.due("rows done", machine.state(Machines.ROWS_DONE), row);
-            lineTakes("letters, row " + row, machine, "pppp" + LETTERS + END);
+            lineTakes("letters, row " + row, machine, "pppp" + Lines.LETTERS + Lines.END);
         }
         check.due("the mode after four rows", machine.state(Machines.MODE), PictureMachine.NONE);
         check.due("rows done after four rows", machine.state(Machines.ROWS_DONE), 0);
-        lineTakes("letters without an address", machine, "p.pp" + BOTH + END);
+        lineTakes("letters without an address", machine, "p.pp" + Lines.BOTH + Lines.END);
         check.due("D", machine.state(Machines.D), 0x110);
     }
 
     private void takesDots() {
-        PictureMachine machine = withList(0x40, 0x43, 0x00, 0x01, 0x03, 0x44, 0x34, 0xFE, 0x04, 0x70);
-        lineTakes("dots with an address", machine, "p..." + DATA + END);
+        PictureMachine machine = Lines.withList(0x40, 0x43, 0x00, 0x01, 0x03, 0x44, 0x34, 0xFE, 0x04, 0x70);
+        lineTakes("dots with an address", machine, "p..." + Lines.DATA + Lines.END);
         check.due("the mode after one row", machine.state(Machines.MODE), PictureMachine.NONE);
-        lineTakes("dots without an address", machine, "p.pp" + DATA + END);
+        lineTakes("dots without an address", machine, "p.pp" + Lines.DATA + Lines.END);
         check.due("D", machine.state(Machines.D), 0x110);
-        lineTakes("two rows with an address", machine, "p..." + DATA + END);
+        lineTakes("two rows with an address", machine, "p..." + Lines.DATA + Lines.END);
         check.due("D, its address modulo 1024", machine.state(Machines.D), 0x23C);
-        lineTakes("two rows, the second", machine, NOTHING);
+        lineTakes("two rows, the second", machine, Lines.NOTHING);
         check.due("the mode after two rows", machine.state(Machines.MODE), PictureMachine.NONE);
-        lineTakes("two rows without an address", machine, "p.pp" + DATA + END);
+        lineTakes("two rows without an address", machine, "p.pp" + Lines.DATA + Lines.END);
         check.due("rows done", machine.state(Machines.ROWS_DONE), 1);
     }
 
     private void takesBlankRows() {
-        PictureMachine machine = withList(0x40, 0x00, 0x30, 0x70);
-        lineTakes("one blank row", machine, MODE_BYTE_ALONE);
-        lineTakes("four blank rows", machine, MODE_BYTE_ALONE);
+        PictureMachine machine = Lines.withList(0x40, 0x00, 0x30, 0x70);
+        lineTakes("one blank row", machine, Lines.MODE_BYTE_ALONE);
+        lineTakes("four blank rows", machine, Lines.MODE_BYTE_ALONE);
         check.due("the mode", machine.state(Machines.MODE), 0);
         for (int row = 1; row < 4; row++) {
-            lineTakes("four blank rows", machine, NOTHING);
+            lineTakes("four blank rows", machine, Lines.NOTHING);
         }
-        lineTakes("eight blank rows", machine, MODE_BYTE_ALONE);
+        lineTakes("eight blank rows", machine, Lines.MODE_BYTE_ALONE);
         for (int row = 1; row < 8; row++) {
             check.due("rows done", machine.state(Machines.ROWS_DONE), row);
-            lineTakes("eight blank rows", machine, NOTHING);
+            lineTakes("eight blank rows", machine, Lines.NOTHING);
         }
         check.due("the line", machine.state(Machines.LINE), 14);
         check.due("the mode in line 14, with a row to come", machine.state(Machines.MODE), 0);
@@ -155,19 +123,19 @@ public final class ListTest {
 
     private void otherModesAreOneBlankRow() {
         for (int mode = 5; mode < 16; mode++) {
-            PictureMachine shown = withList(0x40, 0x70 | mode, 0x70);
+            PictureMachine shown = Lines.withList(0x40, 0x70 | mode, 0x70);
             shown.run(2);
             check.due("the mode", shown.state(Machines.MODE), mode);
-            PictureMachine machine = withList(0x40, 0x70 | mode, 0x70);
-            lineTakes("mode " + mode, machine, MODE_BYTE_ALONE);
+            PictureMachine machine = Lines.withList(0x40, 0x70 | mode, 0x70);
+            lineTakes("mode " + mode, machine, Lines.MODE_BYTE_ALONE);
             check.due("the mode when done", machine.state(Machines.MODE), PictureMachine.NONE);
             dots("mode " + mode, machine, 1, 0, 0);
-            lineTakes("after mode " + mode, machine, MODE_BYTE_ALONE);
+            lineTakes("after mode " + mode, machine, Lines.MODE_BYTE_ALONE);
         }
     }
 
     private void jumps() {
-        PictureMachine machine = withList(0x40, 0x31, 0x34, 0xFD);
+        PictureMachine machine = Lines.withList(0x40, 0x31, 0x34, 0xFD);
         machine.poke(0x134, 0x03);
         machine.run(2);
         check.due("L after the mode byte", machine.state(Machines.L), 0x41);
@@ -177,15 +145,15 @@ public final class ListTest {
         check.due("L is the address", machine.state(Machines.L), 0x134);
         machine.run(20);
         check.due("it does not rest", machine.state(Machines.RESTS), 0);
-        lineTakes("the line behind the jump", machine, "p.pp" + DATA + END);
+        lineTakes("the line behind the jump", machine, "p.pp" + Lines.DATA + Lines.END);
         check.due("L", machine.state(Machines.L), 0x135);
-        PictureMachine other = withList(0x40, 0x01, 0x40, 0x00);
-        lineTakes("a jump", other, "p..." + NO_DATA + END);
-        lineTakes("a jump to itself", other, "p..." + NO_DATA + END);
+        PictureMachine other = Lines.withList(0x40, 0x01, 0x40, 0x00);
+        lineTakes("a jump", other, "p..." + Lines.NO_DATA + Lines.END);
+        lineTakes("a jump to itself", other, "p..." + Lines.NO_DATA + Lines.END);
     }
 
     private void rests() {
-        PictureMachine machine = withList(0x40, 0x41, 0x34, 0x01);
+        PictureMachine machine = Lines.withList(0x40, 0x41, 0x34, 0x01);
         machine.poke(0x134, 0x03);
         machine.run(23);
         check.due("it does not rest in the row", machine.state(Machines.RESTS), 0);
@@ -195,7 +163,7 @@ public final class ListTest {
         check.due("the mode", machine.state(Machines.MODE), PictureMachine.NONE);
         check.due("L", machine.state(Machines.L), 0x134);
         for (int line = 2; line < 13; line++) {
-            lineTakes("while it rests", machine, NOTHING);
+            lineTakes("while it rests", machine, Lines.NOTHING);
             dots("while it rests", machine, line, 0, 0, 0, 0);
         }
         Machines.runTo(machine, 0, 0);
@@ -206,11 +174,11 @@ public final class ListTest {
     }
 
     private void movesOnInItsPage() {
-        PictureMachine machine = withList(0x1FE, 0x43, 0xFC);
+        PictureMachine machine = Lines.withList(0x1FE, 0x43, 0xFC);
         machine.poke(0x100, 0x01);
         machine.poke(0x101, 0x70);
         Machines.pokeAll(machine, 0x1FC, 1, 2);
-        lineTakes("a list over the end of its page", machine, "p..." + DATA + END);
+        lineTakes("a list over the end of its page", machine, "p..." + Lines.DATA + Lines.END);
         check.due("L", machine.state(Machines.L), 0x101);
         check.due("D", machine.state(Machines.D), 0x104);
         // The data are the bytes at 1FC .. 1FF and 100 .. 103.
@@ -219,7 +187,7 @@ public final class ListTest {
     }
 
     private void fetchesMemoryOnly() {
-        PictureMachine machine = withList(0x40, 0x43, 0x00, 0x03, 0x41, 0x07, 0x03);
+        PictureMachine machine = Lines.withList(0x40, 0x43, 0x00, 0x03, 0x41, 0x07, 0x03);
         Machines.sendWithSum(machine, 49, 82, 1);
         machine.run(24);
         dots("data at the registers", machine, 1, 3, 3, 3, 3, 3, 3, 3, 3, 3, 3, 3, 3, 3, 3, 3, 3);
@@ -232,7 +200,7 @@ public final class ListTest {
     }
 
     private void showsLetters() {
-        PictureMachine machine = withList(0x41, 0x42, 0x80, 0x00, 0x70);
+        PictureMachine machine = Lines.withList(0x41, 0x42, 0x80, 0x00, 0x70);
         machine.write(1, 0xFC);
         Machines.pokeAll(machine, 0x80, 0x00, 0x01, 0x7F, 0xC1, 0x3F, 0x40, 0x02, 0x03);
         Machines.pokeAll(machine, 0, 0x1B, 0xE4, 0xFF, 0x00, 0x01, 0x02, 0x03, 0x04);
@@ -255,7 +223,7 @@ public final class ListTest {
     }
 
     private void showsTwoRowsOfDots() {
-        PictureMachine machine = withList(0x40, 0x44, 0x80, 0x00, 0x70);
+        PictureMachine machine = Lines.withList(0x40, 0x44, 0x80, 0x00, 0x70);
         Machines.pokeAll(machine, 0x80, 0x1B, 0xE4, 0, 0, 0, 0, 0, 0x03);
         machine.run(24);
         machine.poke(0x80, 0);
@@ -268,7 +236,7 @@ public final class ListTest {
     }
 
     private void keepsDataPlaceFromLineToLine() {
-        PictureMachine machine = withList(0x40, 0x43, 0x80, 0x00, 0x03, 0x70);
+        PictureMachine machine = Lines.withList(0x40, 0x43, 0x80, 0x00, 0x03, 0x70);
         machine.poke(0x88, 0xC0);
         machine.run(48);
         dots("the second line's data", machine, 2, 3, 0, 0, 0);
@@ -276,7 +244,7 @@ public final class ListTest {
 
     private void beginsAnewInEachFrame() {
         // A mode line that has rows to come at the frame's end is there no more in the next.
-        PictureMachine machine = withList(0x40, 0x70, 0x60, 0x03);
+        PictureMachine machine = Lines.withList(0x40, 0x70, 0x60, 0x03);
         Machines.runTo(machine, 13, 0);
         check.due("the mode in line 13", machine.state(Machines.MODE), 0);
         check.due("rows done in line 13", machine.state(Machines.ROWS_DONE), 4);
@@ -284,21 +252,21 @@ public final class ListTest {
         check.due("the mode in line 0", machine.state(Machines.MODE), PictureMachine.NONE);
         check.due("L in line 0", machine.state(Machines.L), 0x40);
         Machines.runTo(machine, 1, 0);
-        lineTakes("the first line again", machine, MODE_BYTE_ALONE);
+        lineTakes("the first line again", machine, Lines.MODE_BYTE_ALONE);
     }
 
     private void stopsWithoutControl() {
-        PictureMachine machine = withList(0x40, 0x43, 0x80, 0x00, 0x03, 0x70);
+        PictureMachine machine = Lines.withList(0x40, 0x43, 0x80, 0x00, 0x03, 0x70);
         machine.poke(0x80, 0xFF);
         Machines.runTo(machine, 1, 23);
         machine.write(0, 0);
         machine.run(1);
         dots("without bit 0 of CONTROL when it is drawn", machine, 1, 0, 0, 0, 0);
         check.due("the row is not done", machine.state(Machines.MODE), 3);
-        lineTakes("without bit 0", machine, NOTHING);
+        lineTakes("without bit 0", machine, Lines.NOTHING);
         machine.write(0, 1);
         machine.poke(0x88, 0x55);
-        lineTakes("the row comes again, from D on", machine, "pppp" + DATA + END);
+        lineTakes("the row comes again, from D on", machine, "pppp" + Lines.DATA + Lines.END);
         dots("the row that came again", machine, 3, 1, 1, 1, 1);
         check.due("the row is done", machine.state(Machines.MODE), PictureMachine.NONE);
         Machines.runTo(machine, 4, 2);
@@ -307,18 +275,18 @@ public final class ListTest {
 
     /** An address that was said in one line is not fetched in another. */
     private void addressNeedsItsOwnLine() {
-        PictureMachine machine = withList(0x40, 0x43, 0x80, 0x00, 0x70);
+        PictureMachine machine = Lines.withList(0x40, 0x43, 0x80, 0x00, 0x70);
         machine.run(2);
         machine.write(0, 0);
         machine.run(22);
         machine.write(0, 1);
-        lineTakes("its address is not fetched", machine, "pppp" + DATA + END);
+        lineTakes("its address is not fetched", machine, "pppp" + Lines.DATA + Lines.END);
         check.due("L", machine.state(Machines.L), 0x41);
         check.due("D", machine.state(Machines.D), 8);
     }
 
     private void keepsTheLowerByteFetchedLast() {
-        PictureMachine machine = withList(0x40, 0x43, 0x80, 0x00, 0x43, 0x01, 0x02);
+        PictureMachine machine = Lines.withList(0x40, 0x43, 0x80, 0x00, 0x43, 0x01, 0x02);
         machine.run(24);
         machine.run(2);
         machine.write(0, 0);

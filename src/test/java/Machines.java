@@ -58,6 +58,12 @@ final class Machines {
         }
     }
 
+    static void pokeNops(PictureMachine machine, int from, int count) {
+        for (int i = 0; i < count; i++) {
+            machine.poke(from + i, 0xEA);
+        }
+    }
+
     /** Lets time go by until a cycle of a line of the present frame (or the next, if it is past) comes next. */
     static void runTo(PictureMachine machine, int line, int cycle) {
         int now = 24 * machine.state(LINE) + machine.state(CYCLE);

@@ -92,6 +92,7 @@ public final class EdgesOfListTest {
         check.due("D behind the picture", machine.state(Machines.D), 12 * 8);
         Lines.takes(check, "above the picture", machine, Lines.NOTHING);
         Lines.takes(check, "in the picture again", machine, "p.pp" + Lines.DATA + Lines.END);
+        check.due("D goes on in the next frame", machine.state(Machines.D), 13 * 8);
     }
 
     private static void fetchesWithBitZeroOnly(Check check) {

@@ -234,6 +234,10 @@ public final class EdgesOfPictureTest {
             check.due("player 1 at " + column, machine.state(Machines.COLLISIONS_1), due[column % 4]);
             check.due("player 0, which is not there", machine.state(Machines.COLLISIONS_0), 0);
         }
+        PictureMachine both = withPlayers(0b0110_0000, 4, 0b0011_0000, 20);
+        drawn(both);
+        check.due("player 0 over 1 and 2", both.state(Machines.COLLISIONS_0), 6);
+        check.due("player 1 over 2 and 3", both.state(Machines.COLLISIONS_1), 12);
         // It is kept until HIT, whatever is behind it.
         PictureMachine machine = withPlayers(128, 3, 0, 0);
         drawn(machine);

@@ -46,7 +46,10 @@ public final class EdgesOfRegistersTest {
         check.due("SHAPE 1", machine.state(Machines.SHAPE_1), 0);
         check.due("CAUSES", machine.state(Machines.CAUSES), 0);
         check.due("met", machine.state(Machines.MET), 0);
-        check.due("the timer, PERIOD being 0", machine.state(Machines.TIMER), 0);
+        for (int i = 0; i < 3; i++) {
+            machine.run(1);
+            check.due("the timer, PERIOD being 0", machine.state(Machines.TIMER), 0);
+        }
         check.due("gathered", machine.state(Machines.GATHERED), 0);
         // LETTERS and SHAPES, too: letter 0 is at 0, and SHAPE 0 of line 1 at 1.
         machine = Machines.idle();
@@ -155,6 +158,14 @@ public final class EdgesOfRegistersTest {
         machine.run(1);
         check.due("CHANCE as read", machine.processor(Machines.A), 131);
         check.due("reading it changes nothing", machine.state(Machines.CHANCE), 449);
+        // After 39 cycles it is 256 + 32: as a code, JSR, to the sign, 1, and the byte that came in, of which is none.
+        machine = new PictureMachine();
+        Machines.pokeNops(machine, 512, 17);
+        Machines.pokeAll(machine, 529, 0x4C, 0x05, 0x03);
+        machine.run(39);
+        check.due("CHANCE after 39", machine.state(Machines.CHANCE), 256 + 32);
+        machine.run(8);
+        check.due("PC after JSR", machine.processor(Machines.PC), 1);
     }
 
     private static void takesTheSign(Check check) {
@@ -200,13 +211,19 @@ public final class EdgesOfRegistersTest {
 
     private static void tellsWhetherOneHasComeIn(Check check) {
         check.due("at first", read(new PictureMachine(), 8), 0);
+        // One answer, which waits in line 0, and has come in at its end.
         PictureMachine machine = new PictureMachine();
+        Machines.sendWithSum(machine, 49, 0, 1);
+        check.due("while it waits", read(machine, 8), 0);
+        check.due("waiting", machine.state(Machines.WAITING), 1);
+        machine = new PictureMachine();
         Machines.pokeNops(machine, 512, 11);
         Machines.pokeAll(machine, 523, 0xAD, 0x08, 0x03, 0xAA, 0xAD, 0x08, 0x03);
-        Machines.sendWithSum(machine, 49, 82, 1);
+        Machines.sendWithSum(machine, 49, 0, 1);
         machine.run(24 + 10);
         check.due("in line 1", machine.processor(Machines.X), 1);
         check.due("again", machine.processor(Machines.A), 1);
+        check.due("waiting", machine.state(Machines.WAITING), 0);
     }
 
     private static void readsTheStick(Check check) {

@@ -1,3 +1,5 @@
+import java.util.Arrays;
+
 /** The boundary cases that the document names for the drive, a test for each sentence. */
 public final class EdgesOfDriveTest {
     public static void main(String[] args) {
@@ -319,7 +321,7 @@ public final class EdgesOfDriveTest {
         refuse(machine, 36);
         Machines.sendWithSum(machine, 49, 82, 1);
         int[] due = new int[40];
-        java.util.Arrays.fill(due, 78);
+        Arrays.fill(due, 78);
         System.arraycopy(new int[] {65, 67, 1, 2}, 0, due, 36, 4);
         answers(check, "36 refusals and a READ", machine, due);
     }

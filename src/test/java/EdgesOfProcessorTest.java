@@ -17,6 +17,8 @@ public final class EdgesOfProcessorTest {
             EdgesOfProcessorTest::readsCodesAtRegisters);
         sentences.holds("Whatever is read at a register does what reading it does: the bytes behind a code",
             EdgesOfProcessorTest::readsBehindCodesAtRegisters);
+        sentences.holds("the bytes behind its code are read then: of a branch that is not taken, too",
+            EdgesOfProcessorTest::readsBehindBranches);
         sentences.holds("Z the memory at that byte (0 .. 255)", EdgesOfProcessorTest::zeroPageHasItsEnds);
         sentences.holds("X M that at the address + X", EdgesOfProcessorTest::indexedAddressesGoOverPages);
         sentences.holds("PC behind it + # taken with its sign", EdgesOfProcessorTest::branchesBothWays);
@@ -174,6 +176,24 @@ public final class EdgesOfProcessorTest {
         check.due("the byte at the address", machine.processor(Machines.A), 99);
         check.due("come in after it", machine.state(Machines.CAME_IN), 0);
         check.due("the sign after it", machine.state(Machines.SIGN), 0);
+    }
+
+    private static void readsBehindBranches(Check check) {
+        // CHANCE is BNE after 366 cycles, BCS after 680; behind it is the timer's sign, 1.
+        branchesAtChance(check, "BNE, taken", 365, 776);
+        branchesAtChance(check, "BCS, not taken", 679, 775);
+    }
+
+    private static void branchesAtChance(Check check, String what, int cycles, int due) {
+        PictureMachine machine = Machines.withProgram(0x4C, 0x00, 0x02);
+        machine.write(21, 255);
+        machine.run(cycles);
+        Machines.pokeAll(machine, 513, 0x05, 0x03);
+        machine.run(2);
+        check.due(what + ": the sign before it is read", machine.state(Machines.SIGN), 1);
+        machine.run(1);
+        check.due(what + ": the sign after it", machine.state(Machines.SIGN), 0);
+        place(check, what, machine, due);
     }
 
     private static void zeroPageHasItsEnds(Check check) {

@@ -22,6 +22,7 @@ public final class ListTest {
         test.stopsWithoutControl();
         test.addressNeedsItsOwnLine();
         test.keepsTheLowerByteFetchedLast();
+        test.showsWhatWasFetchedBefore();
         test.check.end();
     }
 
@@ -295,5 +296,29 @@ public final class ListTest {
         check.due("own in cycle 3", machine.run(1), 0);
         check.due("D has the lower byte of before", machine.state(Machines.D), 0x180);
         check.due("L", machine.state(Machines.L), 0x45);
+    }
+
+    /** The document leaves room here; this is what README.md says of it. */
+    private void showsWhatWasFetchedBefore() {
+        PictureMachine machine = Lines.withList(0x40, 0x43, 0x00, 0x01, 0x03, 0x02, 0x03);
+        for (int i = 0; i < 16; i++) {
+            machine.poke(256 + i, i < 8 ? 0x1B : 0xFF);
+        }
+        machine.run(24);
+        dots("fetched", machine, 1, 0, 1, 2, 3);
+        runWithoutFetches(machine);
+        dots("data that are not fetched", machine, 2, 0, 1, 2, 3);
+        check.due("D", machine.state(Machines.D), 264);
+        runWithoutFetches(machine);
+        dots("letters that are not fetched", machine, 3, 0, 0, 0, 0);
+    }
+
+    /** A line in which CONTROL has bit 0 but for the cycles of data and letters. */
+    private static void runWithoutFetches(PictureMachine machine) {
+        machine.run(4);
+        machine.write(0, 0);
+        machine.run(16);
+        machine.write(0, 1);
+        machine.run(4);
     }
 }

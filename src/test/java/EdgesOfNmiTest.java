@@ -10,6 +10,10 @@ public final class EdgesOfNmiTest {
         sentences.holds("CAUSES gets bit 7", EdgesOfNmiTest::causesGather);
         sentences.holds("in line 13, whatever CONTROL is", EdgesOfNmiTest::requestsInLine13);
         sentences.holds("if MASK has bit 6: likewise with bit 6", EdgesOfNmiTest::requestsWithBitSixOfMask);
+        sentences.holds("CAUSES gets bit 7 and an NMI is requested: though it has the bit already",
+            EdgesOfNmiTest::requestsAgain);
+        sentences.holds("and an NMI is requested: whatever MASK and CAUSES are later",
+            EdgesOfNmiTest::staysRequested);
         sentences.end();
     }
 
@@ -141,5 +145,37 @@ public final class EdgesOfNmiTest {
             causes(check, "with MASK " + mask, machine, mask & 64);
             check.due("requested with MASK " + mask, machine.processor(Machines.REQUESTED), mask >> 6 & 1);
         }
+    }
+
+    private static void requestsAgain(Check check) {
+        // The NMI returns at once, without CLEAR.
+        PictureMachine machine = Lines.withList(0x40, 0x80, 0x70, 0x70);
+        Machines.pokeAll(machine, 760, 0x80, 0x00);
+        machine.poke(0x80, 0x40);
+        machine.write(6, 192);
+        for (int line : new int[] {1, 13, 1, 13}) {
+            Machines.runTo(machine, line, 8);
+            check.due("requested before line " + line, machine.processor(Machines.REQUESTED), 0);
+            machine.run(1);
+            check.due("requested in line " + line, machine.processor(Machines.REQUESTED), 1);
+        }
+        causes(check, "at the end", machine, 192);
+    }
+
+    private static void staysRequested(Check check) {
+        // Held, so that the NMI does not begin before cycle 22.
+        PictureMachine machine = Machines.idle();
+        Machines.pokeAll(machine, 760, 0x80, 0x00);
+        machine.write(6, 64);
+        Machines.runTo(machine, 13, 0);
+        machine.write(5, 0);
+        machine.run(9);
+        machine.write(6, 0);
+        machine.write(7, 0);
+        check.due("requested", machine.processor(Machines.REQUESTED), 1);
+        causes(check, "behind CLEAR", machine, 0);
+        Machines.runTo(machine, 14, 20);
+        check.due("higher byte of the place pushed", machine.peek(511), 2);
+        check.due("requested behind it", machine.processor(Machines.REQUESTED), 0);
     }
 }

@@ -172,7 +172,7 @@ public final class EdgesOfPictureTest {
     }
 
     private static void playersEndWithTheLine(Check check) {
-        int[] columns = {0, 1, 24, 25, 31, 32, 33, 248, 255};
+        int[] columns = {0, 1, 24, 25, 31, 32, 33, 64, 96, 128, 192, 248, 255};
         for (int column : columns) {
             int[] due = row(PLAYER_0, column, Math.min(31, column + 7));
             same(check, "player 0 at " + column, drawn(withPlayers(255, column, 0, 0)), due);
@@ -212,7 +212,7 @@ public final class EdgesOfPictureTest {
     }
 
     private static void widePlayersEndWithTheLine(Check check) {
-        for (int column : new int[] {0, 15, 16, 17, 30, 31, 32, 240, 255}) {
+        for (int column : new int[] {0, 15, 16, 17, 30, 31, 32, 64, 128, 240, 255}) {
             PictureMachine machine = withPlayers(255, column, 0, 0);
             machine.write(16, 255);
             same(check, "player 0 at " + column, drawn(machine), row(PLAYER_0, column, Math.min(31, column + 15)));

@@ -19,6 +19,8 @@ public final class EdgesOfProcessorTest {
             EdgesOfProcessorTest::readsBehindCodesAtRegisters);
         sentences.holds("the bytes behind its code are read then: of a branch that is not taken, too",
             EdgesOfProcessorTest::readsBehindBranches);
+        sentences.holds("the bytes behind its code are read then, in their order, and what it does follows",
+            EdgesOfProcessorTest::readsBeforeItPushes);
         sentences.holds("Z the memory at that byte (0 .. 255)", EdgesOfProcessorTest::zeroPageHasItsEnds);
         sentences.holds("X M that at the address + X", EdgesOfProcessorTest::indexedAddressesGoOverPages);
         sentences.holds("PC behind it + # taken with its sign", EdgesOfProcessorTest::branchesBothWays);
@@ -194,6 +196,16 @@ public final class EdgesOfProcessorTest {
         machine.run(1);
         check.due(what + ": the sign after it", machine.state(Machines.SIGN), 0);
         place(check, what, machine, due);
+    }
+
+    private static void readsBeforeItPushes(Check check) {
+        // What JSR pushes goes to its own two bytes.
+        PictureMachine machine = Machines.withProgram(0x4C, 0xFD, 0x01);
+        Machines.pokeAll(machine, 0x1FD, 0x20, 0x34, 0x02);
+        machine.run(9);
+        place(check, "JSR with its address on the stack", machine, 0x234);
+        check.due("lower byte of its last byte's place", machine.peek(0x1FE), 0xFF);
+        check.due("higher byte of its last byte's place", machine.peek(0x1FF), 0x01);
     }
 
     private static void zeroPageHasItsEnds(Check check) {

@@ -149,6 +149,12 @@ public final class EdgesOfRegistersTest {
         check.due("in line 15", machine.processor(Machines.A), 15);
         machine.run(24);
         check.due("in line 0 again", machine.processor(Machines.A), 0);
+        // The line is read in cycle 23, its last.
+        machine = Machines.withProgram(0xA9, 0x63, 0xEA, 0xEA, 0xEA, 0xEA, 0xEA, 0xEA, 0xEA, 0xEA, 0xAD, 0x00, 0x03);
+        machine.run(23);
+        check.due("A before cycle 23", machine.processor(Machines.A), 0x63);
+        machine.run(1);
+        check.due("in cycle 23 of line 0", machine.processor(Machines.A), 0);
     }
 
     private static void readsTheLowestBitsOfChance(Check check) {

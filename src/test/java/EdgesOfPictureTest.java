@@ -26,6 +26,7 @@ public final class EdgesOfPictureTest {
         sentences.holds("collides: not outside the line, and not without a shape",
             EdgesOfPictureTest::collidesInTheLineOnly);
         sentences.holds("where both cover one, they meet", EdgesOfPictureTest::playersMeet);
+        sentences.holds("HIT: all collisions are 0: and not before it", EdgesOfPictureTest::collisionsStay);
         sentences.holds("The dot shows the colour of player 0, or else of player 1",
             EdgesOfPictureTest::zeroIsBefore);
         sentences.holds("unless ORDER has bit 0 and its colour is not 0", EdgesOfPictureTest::orderHidesPlayers);
@@ -276,6 +277,17 @@ public final class EdgesOfPictureTest {
         machine.write(0, 0);
         drawn(machine);
         check.due("met over colour 0", machine.state(Machines.MET), 1);
+    }
+
+    private static void collisionsStay(Check check) {
+        PictureMachine machine = withPlayers(128, 1, 128, 1);
+        drawn(machine);
+        machine.write(19, 0);
+        machine.write(20, 0);
+        machine.run(768);
+        check.due("player 0 two frames later", machine.state(Machines.COLLISIONS_0), 2);
+        check.due("player 1 two frames later", machine.state(Machines.COLLISIONS_1), 2);
+        check.due("met two frames later", machine.state(Machines.MET), 1);
     }
 
     private static void zeroIsBefore(Check check) {

@@ -30,6 +30,7 @@ public final class InstructionsTest {
         test.wrapsPlaces();
         test.readsCodeFirstAndOperandsLast();
         test.readsRegistersAsCode();
+        test.leavesOtherFlags();
         test.check.end();
     }
 
@@ -39,7 +40,7 @@ public final class InstructionsTest {
         after("LDA # not negative", 9, 9, 0, 0xA9, 127).takes(2).has(127, 9, 0, AT + 2);
         after("LDA Z", 9, 9, 0, 0xA5, 0x40).poke(0x40, 255).takes(3).has(255, 9, N, AT + 2);
         after("LDA M", 9, 9, 0, 0xAD, 0x34, 0x01).poke(0x134, 7).takes(4).has(7, 9, 0, AT + 3);
-        after("LDA X M", 9, 9, 0, 0xBD, 0xFF, 0x01).poke(0x208, 0).poke(0x206, 56).takes(4);
+        after("LDA X M", 9, 9, 0, 0xBD, 0xFF, 0x00).poke(0x108, 56).takes(4).has(56, 9, 0, AT + 3);
         after("LDA X M over a page", 1, 200, 0, 0xBD, 0x80, 0x00).poke(0x148, 33).takes(4).has(33, 200, 0, AT + 3);
         after("LDA M above the registers", 1, 0, 0, 0xAD, 0x20, 0x03).takes(4).has(255, 0, N, AT + 3);
         after("LDA M modulo 1024", 1, 0, 0, 0xAD, 0x40, 0x04).poke(0x40, 5).takes(4).has(5, 0, 0, AT + 3);
@@ -320,5 +321,35 @@ public final class InstructionsTest {
 
     private void see(String what, int got, int want) {
         check.due(name + ": " + what, got, want);
+    }
+
+    /** Codes that are not said to set a flag leave it, whatever it is. */
+    private void leavesOtherFlags() {
+        int[] leaveAll = {0x85, 0x8D, 0x9D, 0x8E, 0x48, 0xD0, 0xF0, 0x90, 0xB0, 0x30, 0x10, 0x4C, 0x20, 0x60, 0xEA};
+        int[] leaveCarry = {
+            0xA9, 0xA5, 0xAD, 0xBD, 0xA2, 0xA6, 0xA0, 0x29, 0x09, 0x49, 0xE8, 0xCA, 0xC8, 0x88, 0xE6, 0xC6,
+            0xAA, 0x8A, 0x68,
+        };
+        for (int flags : new int[] {0, C, Z, Z | C, N, N | C, N | Z, N | Z | C}) {
+            for (int code : leaveAll) {
+                check.due("all flags after code " + code, flagsAfter(flags, code), flags);
+            }
+            for (int code : leaveCarry) {
+                check.due("C after code " + code, flagsAfter(flags, code) & C, flags & C);
+            }
+            check.due("all flags after CLC", flagsAfter(flags, 0x18), flags & ~C);
+            check.due("all flags after SEC", flagsAfter(flags, 0x38), flags | C);
+        }
+    }
+
+    /** The flags behind a code, when RTI has set them before it. */
+    private static int flagsAfter(int flags, int code) {
+        PictureMachine given = Machines.withProgram(0x40, code, 0x40, 0x00);
+        Machines.pokeAll(given, 256, flags, 0x01, 0x02);
+        given.run(6);
+        do {
+            given.run(1);
+        } while (given.processor(Machines.LEFT) > 0);
+        return given.processor(Machines.FLAGS);
     }
 }
